@@ -49,7 +49,12 @@ public final class LeftTest {
         DUE.be("9 rings less at once: then(0, 1, 9, 0)", x.then(0, 1, 9, 0), 0);
         DUE.be("8 rings less: then(0, 1, 8, 0)", x.then(0, 1, 8, 0), 9);
         x.week(1);
-        DUE.be("from the week on that it is", x.then(0, 1, 0, 4), 8);
+        DUE.be("from the week on that it is: week 1", x.then(0, 1, 0, 4), 8);
+        DUE.be("from the week on that it is: weeks 1, 2", x.then(0, 2, 0, 4), 7);
+        DUE.be("from the week on that it is: weeks 1, 2, 3", x.then(0, 3, 0, 4), 7);
+        DUE.be("from the week on that it is: lasts", x.lasts(0, 8), 2);
+        DUE.be("from the week on that it is: lasts", x.lasts(0, 7), 4);
+        DUE.be("from the week on that it is: least", x.least(0, 8, 2), 5);
         DUE.be("nothing is changed", x.count(5), 45);
         int[][] wrong = {{-1, 0, 0, 0}, {1, 0, 0, 0}, {0, -1, 0, 0}, {0, 61, 0, 0}, {0, 0, -1, 0}, {0, 0, 10, 0}, {0, 0, 0, -1}, {0, 0, 0, 5}};
         for (int[] w : wrong) {

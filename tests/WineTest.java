@@ -69,7 +69,7 @@ public final class WineTest {
         // week 99 leaves 0 by 3: DEEP and WELL do not melt, nor the CHURCH; SOUTH and WINE by 2
         DUE.be("is plain", x.is(0), 1);
         DUE.be("of another cellar", x.is(1), 63);
-        x.note(1, 0, 1, 1, 1);
+        x.note(1, 0, 8, 1, 1);
         DUE.be("is plain or deep", x.is(1), 3);
         x.note(1, 0, 3, 0, 1);
         DUE.be("is deep", x.is(1), 2);
@@ -241,6 +241,8 @@ public final class WineTest {
         gustsAre(x, 0, 0, 9, 9, 10, 27, 1);
         gustsAre(x, 1, 0, 3, 9, 5, 54, 1);
         gustsAre(x, 0, 0, 1, 9, 0, 0, 1);
+        // 10 + 6 - 6 reaches 10 just so
+        gustsAre(x, 0, 0, 6, 1, 10, 2, 1);
         x.wind(6);
         x.cloud(4, 1);
         // 9 at most: 10 + 3 - 9 reaches 4
@@ -291,6 +293,14 @@ public final class WineTest {
         y.stones(0, 3, 1);
         DUE.be("it melts too: a door, 2 weeks", y.summers(0, 1), 1);
         DUE.be("it melts too: a door, 2 weeks", y.summers(0, 2), 0);
+        HailCellar z = new HailCellar();
+        z.cellar(1, 0);
+        z.week(1);
+        z.stones(0, 4, 1);
+        z.stones(0, 3, 1);
+        DUE.be("from week 1 on: a door, weeks 1 and 2", z.summers(0, 2), 1);
+        DUE.be("from week 1 on: week 3 does not melt", z.summers(0, 3), 1);
+        DUE.be("from week 1 on: week 4 does", z.summers(0, 4), 0);
     }
 
     public static void main(String[] args) {

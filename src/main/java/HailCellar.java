@@ -1197,9 +1197,10 @@ public final class HailCellar {
         /** How many are TURNED in the best way; the first such way is kept. */
         int mostTurned(int r) {
             startWays(r);
+            int mostThinkable = turnedByAllAtEach();
             int best = NONE;
             boolean more = true;
-            for (int i = 0; i < 1000000 && more && best < store.clouds.rows; i++) {
+            for (int i = 0; i < 1000000 && more && best < mostThinkable; i++) {
                 int turned = turnedNow();
                 if (turned > best) {
                     best = turned;
@@ -1230,6 +1231,21 @@ public final class HailCellar {
         /** A CLOUD is at each FAR from its own down to 1 for one HOUR, unless it is TURNED first, which is all that counts. */
         private int hitsUntilHere(int s, int k, int r) {
             return store.throwHits(s, r) * Math.min(store.clouds.get(k, FAR), store.throwFar(s, r, store.wind));
+        }
+
+        /** No way turns more than there would be if each CLOUD had all SLINGERS. */
+        private int turnedByAllAtEach() {
+            int turned = 0;
+            for (int k = 0; k < store.clouds.rows; k++) {
+                int needed = store.needsYet(k);
+                for (int s = 0; s < store.slingers.rows; s++) {
+                    needed -= hitsKept(s, k);
+                }
+                if (needed <= 0) {
+                    turned++;
+                }
+            }
+            return turned;
         }
 
         private int turnedNow() {
