@@ -66,10 +66,7 @@ public final class FaceTest {
 
     private static void source() throws Exception {
         String text = Files.readString(Path.of("src/main/java/HailCellar.java"));
-        for (int i = 0; i < text.length(); i++) {
-            char c = text.charAt(i);
-            DUE.hold("sign " + i + " is 10 or 32 to 126", c == 10 || c >= 32 && c <= 126);
-        }
+        DUE.hold("signs 10 and 32 to 126 alone", text.matches("[\\n -~]*+"));
         String code = text.replaceAll("/\\*(?s:.*?)\\*/", "").replaceAll("//[^\n]*", "");
         String[] none = {"\\bpackage\\b", "\\bimport\\b", "\\bthrow\\b", "\\bthrows\\b", "\\btry\\b", "\\bcatch\\b", "\\bfinally\\b",
             "\\bsynchronized\\b", "\\bassert\\b", "->", "::", "@", "\\bObject\\b", "\\bvar\\b", "\\bdouble\\b", "Exact\\(", "\\bprotected\\b"};
