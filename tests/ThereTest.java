@@ -121,17 +121,9 @@ public final class ThereTest {
         DUE.be("count(-1)", x.count(-1), -2);
     }
 
-    private static long mix(long... all) {
-        long h = 1471;
-        for (long v : all) {
-            h = 31 * h + v;
-        }
-        return h;
-    }
-
     private static void digest() {
         HailCellar x = new HailCellar();
-        DUE.be("of a new object", x.digest(), mix(0, 0, 0, 0, 0, 0, 0, 0, 0, 0, 0, 0, 0, 1));
+        DUE.be("of a new object", x.digest(), Due.mix(0, 0, 0, 0, 0, 0, 0, 0, 0, 0, 0, 0, 0, 1));
         x.store(2);
         x.cellar(5, 7);
         x.stones(0, 1, 11);
@@ -150,7 +142,7 @@ public final class ThereTest {
         x.gusts(0, 1, 9, 1, 0);
         x.gusts(1, 1, 1, 1, 1);
         x.type(59);
-        DUE.be("of all", x.digest(), mix(2, 2, 2, 0, 2, 32, 1, 1, 2, 1, 1, 1,
+        DUE.be("of all", x.digest(), Due.mix(2, 2, 2, 0, 2, 32, 1, 1, 2, 1, 1, 1,
                 5, 7, 11, 0, 0, 0, 0, 0, 0, 0, 19, 4, 0, 0, 0, 0, 2, 0, 0, 0, 0, 0,
                 2, 8, 0, 3, 30, 40, 0, 5, 2, 2, 1, 20, 9, 5, 0, 1, 2, 3, 4, 1, 5, 6, 0, 1, 1, 9, 8, 50, 12, 9, 10));
         long before = x.digest();

@@ -23,6 +23,15 @@ public final class Due {
         }
     }
 
+    /** The digest of these numbers, as promise 48 tells it. */
+    public static long mix(long... all) {
+        long h = 1471;
+        for (long v : all) {
+            h = 31 * h + v;
+        }
+        return h;
+    }
+
     /** Types a text byte by byte behind what there is. */
     public static void type(HailCellar x, String text) {
         for (int i = 0; i < text.length(); i++) {
