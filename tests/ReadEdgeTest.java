@@ -254,6 +254,16 @@ public final class ReadEdgeTest {
         Edge e = new Edge(10, "FAULT: the place of the first byte of the first TOKEN that can not stand there (a word that is none,");
         fault(e, 0, "a 0;");
         fault(e, 3, "   rain 0;");
+        fault(e, 0, "xtore 0;");
+        fault(e, 0, "storf 0;");
+        fault(e, 8, "store 0;dellar 0 0;");
+        fault(e, 8, "store 0;cellas 0 0;");
+        fault(e, 8, "store 0;tlinger 0 0;");
+        fault(e, 8, "store 0;slingeq 0 0;");
+        fault(e, 8, "store 0;bloud 1 1;");
+        fault(e, 8, "store 0;cloue 1 1;");
+        fault(e, 8, "store 0;xeeks 1;");
+        fault(e, 8, "store 0;weekt 1;");
         fault(e, 8, "store 0;stores 0;");
         fault(e, 8, "store 0;cella 0 0;");
         fault(e, 8, "store 0;cellars 0 0;");

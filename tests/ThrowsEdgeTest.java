@@ -394,6 +394,12 @@ public final class ThrowsEdgeTest {
         e.due(1, "meet 1 0");
         e.due(1, "meet 1 1");
         e.anew();
+        // the first alone turns cloud 1, and nothing cloud 0: the second is given cloud 0 all the same
+        e.make("slinger 0 9", "slinger 0 0", "cloud 19 40", "cloud 19 19", "cloud 19 40");
+        e.due(1, "meet 1 -1");
+        e.due(1, "meet 1 0");
+        e.due(0, "meet 1 1");
+        e.anew();
         e.make("slinger 0 0", "slinger 0 9", "cloud 19 21", "cloud 19 21");
         e.due(0, "meet 1 -1");
         e.due(0, "meet 1 0");

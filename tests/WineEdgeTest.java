@@ -720,6 +720,16 @@ public final class WineEdgeTest {
         e.due(24, "summers 0 3");
         e.due(1, "count 3");
         e.due(31, "count 5");
+        e.anew();
+        // DEEP from week 1 on: weeks 1 and 2 melt, 3 does not, 4 and 5 do; by seed 1 cellar 0 has its first door in week 4
+        e.make("cellar 1 0", "week 1");
+        for (int r = 1; r <= 6; r++) {
+            e.make("stones 0 " + r + " " + (1 << r - 1));
+        }
+        int[] deep = {63, 62, 60, 60, 48, 32};
+        for (int n = 0; n <= 5; n++) {
+            e.due(deep[n], "summers 1 " + n);
+        }
     }
 
     static void summersBySeeds() {
