@@ -36,6 +36,11 @@ public final class FaceTest {
         for (Method m : HailCellar.class.getDeclaredMethods()) {
             DUE.hold("no private method bears a public name: " + m, !Modifier.isPrivate(m.getModifiers()) || !names.contains(m.getName()));
         }
+        for (Class<?> inside : HailCellar.class.getDeclaredClasses()) {
+            for (Method m : inside.getDeclaredMethods()) {
+                DUE.hold("nor does one of a class inside: " + m, !Modifier.isPrivate(m.getModifiers()) || !names.contains(m.getName()));
+            }
+        }
         Constructor<?>[] all = HailCellar.class.getDeclaredConstructors();
         DUE.hold("one constructor, without numbers", all.length == 1 && all[0].getParameterCount() == 0);
         DUE.hold("public and final", Modifier.isPublic(HailCellar.class.getModifiers()) && Modifier.isFinal(HailCellar.class.getModifiers()));
